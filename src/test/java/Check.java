@@ -31,6 +31,15 @@ final class Check {
         }
     }
 
+    /** The answer as text, or the exception's name behind throws. */
+    static String answer(Call body) {
+        try {
+            return Long.toString(body.answer());
+        } catch (RuntimeException e) {
+            return "throws." + e.getClass().getSimpleName();
+        }
+    }
+
     static void dueIndex(String call, Call body) {
         dueThrow(call, IndexOutOfBoundsException.class, body);
     }

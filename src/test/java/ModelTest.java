@@ -225,18 +225,10 @@ public final class ModelTest {
         }
 
         private void compare(String call, Check.Call got, Check.Call want) {
-            String one = answer(got);
-            String other = answer(want);
+            String one = Check.answer(got);
+            String other = Check.answer(want);
             if (!one.equals(other)) {
                 Check.say("run " + run + ": " + call + " answered " + one + ", due is " + other);
-            }
-        }
-
-        private static String answer(Check.Call call) {
-            try {
-                return Long.toString(call.answer());
-            } catch (RuntimeException e) {
-                return "throws." + e.getClass().getSimpleName();
             }
         }
     }
