@@ -17,6 +17,7 @@ public final class HullBoundsTest {
         everyPassOnTheHull();
         weightAndShiftKeepTheHull();
         greatNumbersOnTheHull();
+        productsBeyondAnInt();
         slopeOffTheHullIsZero();
         slopeFromTheStartOrTheHullPassBefore();
         leastAndMostSlope();
@@ -191,6 +192,14 @@ public final class HullBoundsTest {
         y.pass(0, 9999, 999899);
         dueHull("a line of 23 and a flatter one", "000000000000000000000011", y);
         dueSlope(y, 0, 22, 23000000, 230000);
+    }
+
+    /** A steep pass beside a long flat one: their slopes are compared by products of all sizes. */
+    private static void productsBeyondAnInt() {
+        for (int length = 1; length <= 10000; length += 101) {
+            dueHull("a flat one of " + length + " behind", "11", Make.oneBlock(1, 1000000, length, 1));
+            dueHull("a flat one of " + length + " before", "01", Make.oneBlock(length, 1, 1, 1000000));
+        }
     }
 
     /** "0 for one that is not on the hull": on top and below. */

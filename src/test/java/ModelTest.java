@@ -4,7 +4,8 @@ import java.util.List;
 
 /**
  * Runs of 512 calls, made by a fixed rule, on an object and on a slow model that follows the document
- * word by word: every answer and every exception must be the model's.
+ * word by word: every answer and every exception must be the model's. Now and then all that can be
+ * asked is compared too; asking changes nothing, so these calls are not counted.
  */
 public final class ModelTest {
     private static final int RUNS = 400;

@@ -21,15 +21,8 @@ public final class RowTest {
 
     private static RatePasses withPasses(int... lengthsAndGains) {
         RatePasses x = new RatePasses(2);
-        addBlock(x, lengthsAndGains);
+        Make.block(x, lengthsAndGains);
         return x;
-    }
-
-    private static void addBlock(RatePasses x, int... lengthsAndGains) {
-        int block = x.block();
-        for (int i = 0; i < lengthsAndGains.length; i += 2) {
-            x.pass(block, lengthsAndGains[i], lengthsAndGains[i + 1]);
-        }
     }
 
     private static void dueHull(String name, RatePasses x, int block, boolean... want) {
@@ -125,9 +118,9 @@ public final class RowTest {
 
     private static void rowOrder() {
         RatePasses x = withPasses(1, 5, 1, 0, 1, 4, 1, 1);
-        addBlock(x, 2, 8, 2, 3);
-        addBlock(x, 3, -1);
-        addBlock(x, 10, 100);
+        Make.block(x, 2, 8, 2, 3);
+        Make.block(x, 3, -1);
+        Make.block(x, 10, 100);
         Check.due("11: row", x.row(), 6);
         duePlace(x, 0, 3, 0, 10, 1);
         duePlace(x, 1, 0, 0, 1, 1);
@@ -146,8 +139,8 @@ public final class RowTest {
 
     private static void equalSlopes() {
         RatePasses x = withPasses(2, 4, 2, 4, 2, 4);
-        addBlock(x, 1, 2, 3, 3);
-        addBlock(x, 4, 8, 1, 1);
+        Make.block(x, 1, 2, 3, 3);
+        Make.block(x, 4, 8, 1, 1);
         Check.due("11: row", x.row(), 5);
         duePlace(x, 0, 0, 2, 6, 3);
         duePlace(x, 1, 1, 0, 1, 3);
@@ -223,7 +216,7 @@ public final class RowTest {
 
     private static void least() {
         RatePasses x = withPasses(3, 9, 4, 4);
-        addBlock(x, 5, 10);
+        Make.block(x, 5, 10);
         int[] want = {0, 3, 8, 12};
         for (int n = 0; n <= 3; n++) {
             Check.due("16: least(" + n + ")", x.least(n), want[n]);
@@ -244,8 +237,8 @@ public final class RowTest {
 
     private static void above() {
         RatePasses x = withPasses(3, 9, 4, 4);
-        addBlock(x, 5, 10);
-        addBlock(x, 1, 2);
+        Make.block(x, 5, 10);
+        Make.block(x, 1, 2);
         Check.due("17: above(3, 1)", x.above(3, 1), 1);
         Check.due("17: above(9, 3)", x.above(9, 3), 1);
         Check.due("17: above(300001, 100000)", x.above(300001, 100000), 0);
@@ -259,25 +252,35 @@ public final class RowTest {
         Check.due("17: of an empty row", new RatePasses(1).above(-5, 1), 0);
     }
 
-    /** The bound is nearer to the slope than doubles can tell. */
+    /** The bounds are nearer to the slopes than doubles can tell. */
     private static void aboveIsExact() {
-        RatePasses x = new RatePasses(1);
-        x.block();
-        for (int pass = 0; pass < 23; pass++) {
-            x.pass(0, 9999, 1000000);
+        for (int length = 9990; length <= 9994; length += 2) {
+            RatePasses x = new RatePasses(1);
+            x.block();
+            for (int pass = 0; pass < 23; pass++) {
+                x.pass(0, 9999, 1000000);
+            }
+            x.pass(0, length, 999999);
+            x.weight(0, 100);
+            x.shift(0, 3);
+            Check.due("11: row", x.row(), 1);
+            long rise = x.slope(0, 23, true);
+            long cost = x.slope(0, 23, false);
+            int below = greatestL(rise, cost, 1);
+            Check.due("17: just below the slope", x.above((rise * below - 1) / cost, below), 1);
+            int over = greatestL(rise, cost, cost - 1);
+            Check.due("17: just above the slope", x.above((rise * over + 1) / cost, over), 0);
         }
-        x.pass(0, 9998, 999999);
-        x.weight(0, 100);
-        x.shift(0, 3);
-        Check.due("11: row", x.row(), 1);
-        long g = x.slope(0, 0, true) + x.slope(0, 23, true);
-        long l = x.slope(0, 23, false);
-        for (int bound = 999000; bound <= 1000000; bound++) {
-            // The greatest g of a fraction by this bound that is not above the slope.
-            long most = g * bound / l;
-            Check.due("17: not below", x.above(most, bound), 1);
-            Check.due("17: below", x.above(most + 1, bound), 0);
+    }
+
+    /** The greatest l with which the slope, times l, is this rest (by the cost) above a whole g. */
+    private static int greatestL(long rise, long cost, long rest) {
+        int l = 1000000;
+        while (l > 0 && rise * l % cost != rest) {
+            l--;
         }
+        Check.due("such an l is there", l > 0, true);
+        return l;
     }
 
     private static void aboveBounds() {

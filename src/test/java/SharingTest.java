@@ -13,13 +13,6 @@ public final class SharingTest {
         Check.end();
     }
 
-    private static void addBlock(RatePasses x, int... lengthsAndGains) {
-        int block = x.block();
-        for (int i = 0; i < lengthsAndGains.length; i += 2) {
-            x.pass(block, lengthsAndGains[i], lengthsAndGains[i + 1]);
-        }
-    }
-
     private static void dueLayer(RatePasses x, int layer, int bytes, long gained, int... passes) {
         Check.due("14: bytes(" + layer + ")", x.bytes(layer), bytes);
         Check.due("15: gained(" + layer + ")", x.gained(layer), gained);
@@ -37,8 +30,8 @@ public final class SharingTest {
     /** Costs in the row: 2 (block 0), 3 (block 1), 4 (block 0), 5 (block 1). */
     private static RatePasses twoBlocks(int layers) {
         RatePasses x = new RatePasses(layers);
-        addBlock(x, 2, 20, 4, 20);
-        addBlock(x, 3, 24, 5, 5);
+        Make.block(x, 2, 20, 4, 20);
+        Make.block(x, 3, 24, 5, 5);
         return x;
     }
 
@@ -56,9 +49,9 @@ public final class SharingTest {
 
     private static void stopsAtTheFirstTooLong() {
         RatePasses x = new RatePasses(2);
-        addBlock(x, 1, 100);
-        addBlock(x, 9, 90);
-        addBlock(x, 1, 1);
+        Make.block(x, 1, 100);
+        Make.block(x, 9, 90);
+        Make.block(x, 1, 1);
         x.size(0, 9);
         x.size(1, 8);
         Check.due("8: run", x.run(), 2);
@@ -114,8 +107,8 @@ public final class SharingTest {
 
     private static void passesOffTheHull() {
         RatePasses x = new RatePasses(2);
-        addBlock(x, 1, -2, 1, 12, 1, 0, 1, 5, 1, -9);
-        addBlock(x, 1, -1);
+        Make.block(x, 1, -2, 1, 12, 1, 0, 1, 5, 1, -9);
+        Make.block(x, 1, -1);
         Check.due("11: row", x.row(), 2);
         x.size(0, 2);
         x.size(1, 100);

@@ -4,13 +4,10 @@ public final class TellingTest {
         newObject();
         block();
         pass();
-        passFirstException();
         weight();
         shift();
         layerNumbers();
         toldNumbers();
-        sharedUntilSomethingIsTold();
-        throwingKeepsShared();
         clear();
         clearForgetsBlocks();
         Check.end();
@@ -66,27 +63,6 @@ public final class TellingTest {
         Check.due("3: still shared", x.told(3), 1);
         Check.dueIndex("3: hull(0, 24)", () -> x.hull(0, 24) ? 1 : 0);
         Check.due("3: the other block has room", x.pass(1, 5, 0), 1);
-    }
-
-    private static void passFirstException() {
-        RatePasses x = new RatePasses(1);
-        x.block();
-        Check.dueArgument("3: length 0", () -> x.pass(0, 0, 1));
-        Check.dueArgument("3: length -1", () -> x.pass(0, -1, 1));
-        Check.dueArgument("3: length 10001", () -> x.pass(0, 10001, 1));
-        Check.dueArgument("3: gain 1000001", () -> x.pass(0, 1, 1000001));
-        Check.dueArgument("3: gain -1000001", () -> x.pass(0, 1, -1000001));
-        Check.dueArgument("3: the least gain", () -> x.pass(0, 1, Integer.MIN_VALUE));
-        Check.dueIndex("3: block 1", () -> x.pass(1, 1, 1));
-        Check.dueIndex("3: block -1", () -> x.pass(-1, 1, 1));
-        Check.dueIndex("3: block before length", () -> x.pass(1, 0, 1));
-        Check.due("3: nothing changed", x.told(2), 0);
-        for (int number = 0; number < 24; number++) {
-            x.pass(0, 1, 1);
-        }
-        Check.dueArgument("3: length before too many", () -> x.pass(0, 0, 1));
-        Check.dueArgument("3: gain before too many", () -> x.pass(0, 1, 1000001));
-        Check.dueIndex("3: block before too many", () -> x.pass(1, 1, 1));
     }
 
     private static void weight() {
@@ -176,60 +152,6 @@ public final class TellingTest {
         for (int what : others) {
             Check.due("18: told(" + what + ")", x.told(what), RatePasses.NONE);
         }
-    }
-
-    /** Also what is told such as it was before. */
-    private static void sharedUntilSomethingIsTold() {
-        RatePasses x = new RatePasses(1);
-        x.block();
-        dueUnshared(x, "block", x::block);
-        dueUnshared(x, "pass", () -> x.pass(0, 1, 1));
-        dueUnshared(x, "a pass of no worth", () -> x.pass(0, 1, -1));
-        dueUnshared(x, "weight", () -> x.weight(0, 1));
-        dueUnshared(x, "weight of a block without passes", () -> x.weight(1, 1));
-        dueUnshared(x, "shift", () -> x.shift(0, 0));
-        dueUnshared(x, "size", () -> x.size(0, 0));
-        dueUnshared(x, "head", () -> x.head(0, 0));
-        dueUnshared(x, "clear", () -> clearOf(x));
-        dueUnshared(x, "clear of nothing", () -> clearOf(x));
-    }
-
-    private static void dueUnshared(RatePasses x, String name, Check.Call call) {
-        x.run();
-        Check.due("18: shared before " + name, x.told(3), 1);
-        call.answer();
-        Check.due("18: shared after " + name, x.told(3), 0);
-        Check.dueState("14: bytes after " + name, () -> x.bytes(0));
-    }
-
-    private static long clearOf(RatePasses x) {
-        x.clear();
-        return 0;
-    }
-
-    private static void throwingKeepsShared() {
-        RatePasses x = new RatePasses(1);
-        x.block();
-        x.pass(0, 3, 3);
-        x.size(0, 3);
-        x.run();
-        Check.dueIndex("pass", () -> x.pass(1, 1, 1));
-        Check.dueArgument("pass", () -> x.pass(0, 0, 1));
-        Check.dueArgument("weight", () -> x.weight(0, 0));
-        Check.dueArgument("shift", () -> x.shift(0, 4));
-        Check.dueArgument("size", () -> x.size(0, -1));
-        Check.dueArgument("head", () -> x.head(0, -1));
-        Check.dueArgument("at", () -> x.at(0, 5));
-        Check.dueArgument("least", () -> x.least(2));
-        Check.dueArgument("above", () -> x.above(0, 0));
-        x.hull(0, 0);
-        x.slope(0, 0, true);
-        x.row();
-        x.at(0, 4);
-        x.least(1);
-        x.above(1, 1);
-        Check.due("18: asking and throwing keep it shared", x.told(3), 1);
-        Check.due("14: bytes", x.bytes(0), 3);
     }
 
     private static void clear() {
